@@ -50,9 +50,7 @@ public final class SnowTerm {
     }
 
     public int blank() {
-        int had = page.size;
-        page.size = 0;
-        return had;
+        return page.clear();
     }
 
     public int fault() {
@@ -71,7 +69,7 @@ public final class SnowTerm {
         now.begin(page.sunTold());
         hasImage = false;
         citiesRead++;
-        page.size = 0;
+        page.clear();
         return sites;
     }
 
@@ -585,6 +583,12 @@ public final class SnowTerm {
             codes[size] = code;
             size++;
             return true;
+        }
+
+        int clear() {
+            int had = size;
+            size = 0;
+            return had;
         }
 
         int faultPlace() {
