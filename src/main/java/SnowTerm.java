@@ -21,6 +21,8 @@ public final class SnowTerm {
     private final Term atImage;
     /** The snow of a winter that only would be: one row for all calls, so that none makes its own. */
     private final int[] wouldBe;
+    /** What each site needs for the days of a plan, NONE if it cannot be kept: one row, too. */
+    private final int[] needs;
     private int sites;
     private int citiesRead;
     private boolean hasImage;
@@ -32,6 +34,7 @@ public final class SnowTerm {
         now = new Term();
         atImage = new Term();
         wouldBe = new int[MOST_SITES];
+        needs = new int[MOST_SITES];
         sites = 0;
         citiesRead = 0;
         hasImage = false;
@@ -169,12 +172,13 @@ public final class SnowTerm {
         if (sites == 0) {
             return STATE;
         }
-        int bits = bestPlan(loads, days);
+        tellNeeds(days);
+        int bits = bestPlan(loads);
         switch (what) {
             case 0: return Integer.bitCount(bits);
             case 1: return bits;
-            case 2: return loadsOf(bits, days);
-            default: return costOf(bits, days);
+            case 2: return loadsOf(bits);
+            default: return costOf(bits);
         }
     }
 
@@ -349,10 +353,10 @@ public final class SnowTerm {
     private static int melting(int kind, int sun, int feet) {
         int both = sun + feet;
         switch (kind) {
-            case YARD: return Math.max(0, both - 2);
+            case YARD: return both > 2 ? both - 2 : 0;
             case GRAVE: return both / 2;
             case STAND: return sun;
-            case TOMB: return Math.max(0, both / 2 - 1);
+            case TOMB: return both > 2 ? both / 2 - 1 : 0;
             default: return both;
         }
     }
@@ -366,7 +370,7 @@ public final class SnowTerm {
     }
 
     private static int leftOf(int deep, int melted) {
-        return Math.max(0, deep - melted);
+        return deep > melted ? deep - melted : 0;
     }
 
     private static int priceAt(int site) {
@@ -417,43 +421,48 @@ public final class SnowTerm {
         return deepEnough > DEEPEST ? NONE : Math.max(0, deepEnough - now.snow[site]);
     }
 
+    private void tellNeeds(int days) {
+        for (int site = 0; site < sites; site++) {
+            needs[site] = loadsNeeded(site, days);
+        }
+    }
+
     /** By rising bits, so that of plans alike in number and cost the least bits stay. */
-    private int bestPlan(int loads, int days) {
+    private int bestPlan(int loads) {
         int best = 0;
         for (int bits = 1; bits < 1 << sites; bits++) {
-            int wanted = loadsOf(bits, days);
-            if (wanted != NONE && wanted <= loads && isBetterPlan(bits, best, days)) {
+            int wanted = loadsOf(bits);
+            if (wanted != NONE && wanted <= loads && isBetterPlan(bits, best)) {
                 best = bits;
             }
         }
         return best;
     }
 
-    private boolean isBetterPlan(int bits, int best, int days) {
+    private boolean isBetterPlan(int bits, int best) {
         int more = Integer.bitCount(bits) - Integer.bitCount(best);
-        return more > 0 || more == 0 && costOf(bits, days) < costOf(best, days);
+        return more > 0 || more == 0 && costOf(bits) < costOf(best);
     }
 
     /** NONE, if a site of these cannot be kept so long. */
-    private int loadsOf(int bits, int days) {
+    private int loadsOf(int bits) {
         int sum = 0;
         for (int site = 0; site < sites; site++) {
             if (hasBit(bits, site)) {
-                int needed = loadsNeeded(site, days);
-                if (needed == NONE) {
+                if (needs[site] == NONE) {
                     return NONE;
                 }
-                sum += needed;
+                sum += needs[site];
             }
         }
         return sum;
     }
 
-    private int costOf(int bits, int days) {
+    private int costOf(int bits) {
         int sum = 0;
         for (int site = 0; site < sites; site++) {
             if (hasBit(bits, site)) {
-                sum += loadsNeeded(site, days) * priceAt(site);
+                sum += needs[site] * priceAt(site);
             }
         }
         return sum;

@@ -1,6 +1,10 @@
 import java.io.IOException;
 import java.nio.file.Files;
 import java.nio.file.Path;
+import java.util.ArrayList;
+import java.util.LinkedHashMap;
+import java.util.List;
+import java.util.Map;
 import java.util.regex.Matcher;
 import java.util.regex.Pattern;
 
@@ -17,6 +21,50 @@ public final class LanguageTest {
 
     private static String withoutComments(String text) {
         return text.replaceAll("(?s)/\\*.*?\\*/", "").replaceAll("//[^\n]*", "");
+    }
+
+    /** The rows of each method; methods of one name are taken together. */
+    private static Map<String, List<String>> rowsByMethod(String code) {
+        Map<String, List<String>> rows = new LinkedHashMap<>();
+        String name = "";
+        String end = "";
+        for (String row : code.split("\n")) {
+            Matcher m = Pattern.compile("^( {4,8})[\\w\\[\\] ]+? (\\w+)\\([^)]*\\) \\{$").matcher(row);
+            if (name.isEmpty() && m.matches()) {
+                name = m.group(2);
+                end = m.group(1) + "}";
+                rows.putIfAbsent(name, new ArrayList<>());
+            } else if (row.equals(end)) {
+                name = "";
+            } else if (!name.isEmpty()) {
+                rows.get(name).add(row);
+            }
+        }
+        return rows;
+    }
+
+    /** How many calls stand open at most below and with this one, the library's among them. */
+    private static int depthOf(String name, Map<String, List<String>> rows, int above) {
+        int below = 0;
+        if (above > 20) {
+            return above;
+        }
+        for (String row : rows.getOrDefault(name, List.of())) {
+            Matcher m = Pattern.compile("\\b(?!switch|if|for|while|return)(\\w+)\\(").matcher(row);
+            while (m.find()) {
+                below = Math.max(below, depthOf(m.group(1), rows, above + 1));
+            }
+        }
+        return 1 + below;
+    }
+
+    private static void checkDepth(Check check, String code) {
+        Map<String, List<String>> rows = rowsByMethod(code);
+        check.due("digest is among the methods", rows.containsKey("digest") ? 1 : 0, 1);
+        for (String name : rows.keySet()) {
+            int depth = depthOf(name, rows, 0);
+            check.due(name + " calls eight deep at most, it is " + depth, depth <= 8 ? 1 : 0, 1);
+        }
     }
 
     private static void checkMethods(Check check, String code) {
@@ -45,6 +93,7 @@ public final class LanguageTest {
             check.due("times that " + word + " stands there", m.results().count(), 0);
         }
         checkMethods(check, code);
+        checkDepth(check, code);
         check.end();
     }
 }
