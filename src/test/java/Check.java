@@ -39,4 +39,10 @@ final class Check {
         x.city();
         return x;
     }
+
+    static void bringAll(SnowTerm x, int site, int loads) {
+        for (int left = loads; left > 0; left -= 9) {
+            x.bring(site, Math.min(9, left));
+        }
+    }
 }

@@ -8,12 +8,6 @@ public final class PromisesTest {
         CHECK.due(call, got, want);
     }
 
-    private static void bringAll(SnowTerm x, int site, int loads) {
-        for (int left = loads; left > 0; left -= 9) {
-            x.bring(site, Math.min(9, left));
-        }
-    }
-
     private static void promise1() {
         SnowTerm x = new SnowTerm();
         for (int what = 0; what <= 9; what++) {
@@ -153,7 +147,7 @@ public final class PromisesTest {
         SnowTerm x = Check.cityOf("s1," + kind + "1;" + sun);
         x.tread(1, feet);
         due("6: " + kind + " melts by " + sun + " and " + feet, x.about(1, 4), melts);
-        bringAll(x, 1, 30);
+        Check.bringAll(x, 1, 30);
         x.day();
         due("6: " + kind + " has left", x.about(1, 2), 30 - melts);
     }
@@ -252,7 +246,7 @@ public final class PromisesTest {
         due("9: tread(2, -1)", x.tread(2, -1), UNKNOWN);
         due("9: tread(-1, 0)", x.tread(-1, 0), UNKNOWN);
         due("9: about(0, 3)", x.about(0, 3), 0);
-        bringAll(x, 1, 20);
+        Check.bringAll(x, 1, 20);
         x.day();
         x.day();
         due("9: they tread on each day", x.about(1, 2), 12);
@@ -272,9 +266,9 @@ public final class PromisesTest {
 
     private static void promise11() {
         SnowTerm x = Check.cityOf("s3,b2,y4;2");
-        bringAll(x, 0, 9);
-        bringAll(x, 1, 4);
-        bringAll(x, 2, 4);
+        Check.bringAll(x, 0, 9);
+        Check.bringAll(x, 1, 4);
+        Check.bringAll(x, 2, 4);
         x.tread(0, 1);
         x.tread(1, 8);
         due("11: day()", x.day(), 3);
@@ -335,7 +329,7 @@ public final class PromisesTest {
         planIs(Check.cityOf("s4,s2;0"), 4, 0, 1, 1, 4, 4);
         // What needs nothing is kept, too, for nothing; what cannot be kept is left out.
         x = Check.cityOf("s2,s5,s2;4");
-        bringAll(x, 0, 30);
+        Check.bringAll(x, 0, 30);
         planIs(x, 0, 2, 1, 1, 0, 0);
         planIs(x, 10, 2, 2, 5, 10, 30);
         planIs(x, 60, 7, 2, 5, 30, 90);
@@ -377,9 +371,9 @@ public final class PromisesTest {
 
         // What the cap hides: 20 lay, 30 were brought; without them it is 20 again, not 0.
         x = Check.cityOf("s9,s9;0");
-        bringAll(x, 0, 20);
+        Check.bringAll(x, 0, 20);
         x.day();
-        bringAll(x, 0, 30);
+        Check.bringAll(x, 0, 30);
         errorIs("what lay in the end of the day stays", x, 1, 2);
         x.image();
         x.sun(9);
@@ -488,8 +482,8 @@ public final class PromisesTest {
         due("19: snow of one day", x.winters(1, 0, 1), 1);
         due("19: praise of two days", x.winters(2, 0, 0), 1);
         due("19: snow of two days", x.winters(2, 0, 1), 0);
-        bringAll(x, 0, 30);
-        bringAll(x, 1, 8);
+        Check.bringAll(x, 0, 30);
+        Check.bringAll(x, 1, 8);
         x.tread(0, 4);
         x.day();
         // 17 and 0 lie now; the load comes ahead of the day: 18 - 4, then 14 - 7.
@@ -504,7 +498,7 @@ public final class PromisesTest {
         due("19: count(6)", x.count(6), 30 + 16);
         // With three sites 21468 and 22117 leave 0 and 1; 30 is the most there can be.
         x = Check.cityOf("s1,s1,s1;9");
-        bringAll(x, 0, 30);
+        Check.bringAll(x, 0, 30);
         due("19: 30 at most", x.winters(1, 0, 1), 30);
         due("19: the greatest seed", x.winters(1, Integer.MAX_VALUE, 2), 288979989);
         // Worked out by a few lines of another language.
@@ -527,7 +521,7 @@ public final class PromisesTest {
     private static void promises20And21() {
         SnowTerm x = Check.cityOf("b2,s2;1");
         due("21: restore(), none kept", x.restore(), STATE);
-        bringAll(x, 0, 9);
+        Check.bringAll(x, 0, 9);
         x.day();
         x.tread(1, 3);
         x.bring(1, 4);
@@ -570,8 +564,8 @@ public final class PromisesTest {
 
     private static void promise22() {
         SnowTerm x = Check.cityOf("s2,s9,s1;1");
-        bringAll(x, 0, 5);
-        bringAll(x, 2, 3);
+        Check.bringAll(x, 0, 5);
+        Check.bringAll(x, 2, 3);
         x.day();
         x.bring(1, 9);
         x.sun(6);
