@@ -45,4 +45,12 @@ final class Check {
             x.bring(site, Math.min(9, left));
         }
     }
+
+    static long digestOf(int... numbers) {
+        long h = 1061;
+        for (int number : numbers) {
+            h = 31 * h + number;
+        }
+        return h;
+    }
 }

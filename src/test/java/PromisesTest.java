@@ -582,19 +582,11 @@ public final class PromisesTest {
         }
     }
 
-    private static long digestOf(int... numbers) {
-        long h = 1061;
-        for (int number : numbers) {
-            h = 31 * h + number;
-        }
-        return h;
-    }
-
     private static void promise23() {
         SnowTerm x = new SnowTerm();
-        due("23: digest(), no city", x.digest(), digestOf(0, 0, 0, 0, 0, 0, 0, 0, 0, 0));
+        due("23: digest(), no city", x.digest(), Check.digestOf(0, 0, 0, 0, 0, 0, 0, 0, 0, 0));
         Check.write(x, "y7");
-        due("23: digest(), letters", x.digest(), digestOf('y', '7', 0, 0, 0, 0, 0, 0, 0, 0, 2, 0));
+        due("23: digest(), letters", x.digest(), Check.digestOf('y', '7', 0, 0, 0, 0, 0, 0, 0, 0, 2, 0));
         x.blank();
         Check.write(x, "s5,t2;3");
         x.city();
@@ -603,7 +595,7 @@ public final class PromisesTest {
         x.tread(1, 4);
         x.found(0, 9, 6);
         x.letter(' ');
-        due("23: digest()", x.digest(), digestOf(
+        due("23: digest()", x.digest(), Check.digestOf(
                 0, 5, 2, 0, 3, 0, 2, 3, 6, 18,
                 4, 2, 7, 4, 2, 1, 7, 0, 0, 5,
                 2, 3, 9, 9, 1, 2, 8, 0,
@@ -612,12 +604,12 @@ public final class PromisesTest {
         long once = x.digest();
         due("23: digest() once more", x.digest(), once);
         // A plan of just 20 loads, and one that would be of 21.
-        due("23: digest(), 20 loads", Check.cityOf("s8,s8;1").digest(), digestOf(
+        due("23: digest(), 20 loads", Check.cityOf("s8,s8;1").digest(), Check.digestOf(
                 0, 8, 0, 0, 1, 0, 0, 8, 9, 13,
                 0, 8, 0, 0, 1, 0, 0, 8, 9, 13,
                 2, 3, 20, 30, -1, -1, 1023, 0,
                 2, 1, 0, 0, 0, 0, 0, 0, 0, 1));
-        due("23: digest(), 21 loads", Check.cityOf("s9,s8;1").digest(), digestOf(
+        due("23: digest(), 21 loads", Check.cityOf("s9,s8;1").digest(), Check.digestOf(
                 0, 9, 0, 0, 1, 0, 0, 9, 10, 14,
                 0, 8, 0, 0, 1, 0, 0, 8, 9, 13,
                 1, 1, 11, 11, -1, -1, 1023, 0,
