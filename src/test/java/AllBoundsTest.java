@@ -2,7 +2,7 @@
 public final class AllBoundsTest {
     private static final int OUTSIDE = -102, STATE = -103, FULL = -104;
     private static final String USED = "bring 0 9; bring 2 7; tread 1 2; day; bring 0 6; bring 1 3; tread 2 1; "
-            + "found 0 9 8; found 1 9 7; sun 3";
+            + "found 0 9 7; found 1 9 7; sun 3";
     private static final Check CHECK = new Check("AllBoundsTest");
 
     private static void due(String call, long got, long want) {
@@ -21,8 +21,11 @@ public final class AllBoundsTest {
         for (String change : new String[] {"", "day", "sun 9", "bring 0 1", "bring 2 9", "tread 0 9", "tread 2 0",
             "found 2 5 5", "forget", "forget; found 0 9 0; found 0 9 0", "day; day; day",
             "day; bring 0 9; bring 1 9; tread 0 1; sun 0; found 2 1 1; day",
-            "forget; tread 0 9; found 0 9 8; found 1 9 7"}) {
+            // Another kind, other feet, another depth, and another rest in the first one's place.
+            "forget; tread 2 0; found 2 9 7", "forget; tread 0 1; found 0 9 7", "forget; found 0 8 7",
+            "forget; found 0 9 6"}) {
             SnowTerm x = usedCity();
+            due("20: one sun can have left what is found", x.suns(), 4);
             due("20: image()", x.image(), 1);
             Calls.run(x, change);
             due("21: restore() after " + change, x.restore(), 1);
@@ -183,6 +186,31 @@ public final class AllBoundsTest {
                 2, 9, 0, 0, 0, 0, 0, 1, 0, 1));
     }
 
+    // "NEED for 0, 1 and 5 DAYS": 20 loads of a plan, and a need, that one more or one less would change
+    private static void digestsGoByTheirNumbers() {
+        due("23: needs of each day, a plan of just 20", Check.cityOf("s8,s8;1").digest(), Check.digestOf(
+                0, 8, 0, 0, 1, 0, 0, 8, 9, 13,
+                0, 8, 0, 0, 1, 0, 0, 8, 9, 13,
+                2, 3, 20, 30, -1, -1, 1023, 0,
+                2, 1, 0, 0, 0, 0, 0, 0, 0, 1));
+        due("23: one that would be of 21", Check.cityOf("s8,s9;1").digest(), Check.digestOf(
+                0, 8, 0, 0, 1, 0, 0, 8, 9, 13,
+                0, 9, 0, 0, 1, 0, 0, 9, 10, 14,
+                1, 1, 10, 10, -1, -1, 1023, 0,
+                2, 1, 0, 0, 0, 0, 0, 0, 0, 1));
+        SnowTerm x = Check.cityOf("t9,s1,s9;0");
+        x.bring(0, 1);
+        x.bring(2, 9);
+        x.day();
+        x.bring(0, 1);
+        due("23: which error, then how many", x.digest(), Check.digestOf(
+                4, 9, 2, 0, 0, 0, 1, 7, 7, 7,
+                0, 1, 0, 0, 0, 0, 0, 1, 1, 1,
+                0, 9, 9, 0, 0, 1, 0, 0, 0, 0,
+                3, 7, 8, 9, 1, 2, 1023, 1,
+                3, 0, 1, 11, 1, 1, 29, 0, 0, 1));
+    }
+
     // "An object is used for at most 512 calls": the last of them answers as the others do
     private static void theLastOf512Calls() {
         SnowTerm x = Check.cityOf("s1,t1;0");
@@ -212,6 +240,7 @@ public final class AllBoundsTest {
         countsAtTheirMost();
         digestsOfPages();
         digestsOfCities();
+        digestsGoByTheirNumbers();
         theLastOf512Calls();
         CHECK.end();
     }

@@ -149,6 +149,18 @@ public final class FoundBoundsTest {
         due("18: 4 and 5, the yard tells them apart", x.look(), 1);
     }
 
+    // The weakest and the strongest SUN count as the others do.
+    private static void lookKnowsSuns0And9() {
+        SnowTerm x = Check.cityOf("g1,s1;0");
+        x.found(0, 20, 16);
+        due("18: 8 and 9 by the grave", x.suns(), 256 + 512);
+        due("18: 8 and 9 are told apart by s", x.look(), 1);
+        x.forget();
+        x.found(0, 20, 20);
+        due("18: 0 and 1 by the grave", x.suns(), 1 + 2);
+        due("18: 0 and 1 are told apart by s", x.look(), 1);
+    }
+
     private static void wintersAre(SnowTerm x, int days, int seed, int praise, int snow, int next) {
         String when = Calls.told("winters", days, seed) + ", what ";
         due("19: " + when + 0, x.winters(days, seed, 0), praise);
@@ -225,6 +237,7 @@ public final class FoundBoundsTest {
         noCityNoSuns();
         lookTellsTheLeastOfLikeOnes();
         lookGoesByWhatIsFound();
+        lookKnowsSuns0And9();
         wintersAtTheirBounds();
         wintersGoOnFromNow();
         theLoadComesAheadOfTheDay();

@@ -603,17 +603,6 @@ public final class PromisesTest {
                 2, 3, 0, 9, 1, 0, 16, 1, 1, 1));
         long once = x.digest();
         due("23: digest() once more", x.digest(), once);
-        // A plan of just 20 loads, and one that would be of 21.
-        due("23: digest(), 20 loads", Check.cityOf("s8,s8;1").digest(), Check.digestOf(
-                0, 8, 0, 0, 1, 0, 0, 8, 9, 13,
-                0, 8, 0, 0, 1, 0, 0, 8, 9, 13,
-                2, 3, 20, 30, -1, -1, 1023, 0,
-                2, 1, 0, 0, 0, 0, 0, 0, 0, 1));
-        due("23: digest(), 21 loads", Check.cityOf("s9,s8;1").digest(), Check.digestOf(
-                0, 9, 0, 0, 1, 0, 0, 9, 10, 14,
-                0, 8, 0, 0, 1, 0, 0, 8, 9, 13,
-                1, 1, 11, 11, -1, -1, 1023, 0,
-                2, 1, 0, 0, 0, 0, 0, 0, 0, 1));
     }
 
     public static void main(String[] args) {
