@@ -1,4 +1,7 @@
 import java.io.IOException;
+import java.lang.reflect.Field;
+import java.lang.reflect.Method;
+import java.lang.reflect.Modifier;
 import java.nio.file.Files;
 import java.nio.file.Path;
 import java.util.ArrayList;
@@ -8,7 +11,7 @@ import java.util.Map;
 import java.util.regex.Matcher;
 import java.util.regex.Pattern;
 
-/** The plainest rules of LANGUAGE.md that can be seen in the text of the class. */
+/** The plainest rules of LANGUAGE.md that can be seen in the text of the class, or in its parts. */
 public final class LanguageTest {
     private static final Path SOURCE = Path.of("src/main/java/SnowTerm.java");
     private static final String[] NOT_HERE = {
@@ -18,6 +21,15 @@ public final class LanguageTest {
         "\\bMath\\.(?!(min|max)\\b)", "\\bInteger\\.(?!bitCount\\b)",
         "\\bSystem\\.(?!arraycopy\\b)", "[^\\x00-\\x7f]",
     };
+    /** A method or constructor of the class (four spaces) or of one inside it (eight). */
+    private static final Pattern HEAD =
+            Pattern.compile("^( {4}| {8})(?! )[\\w\\[\\] ]*?\\b(\\w+)\\(([^)]*)\\) \\{$");
+    private static final Pattern CALL = Pattern.compile("\\b(?!switch|if|for|while|return)(\\w+)\\(");
+    private static final Check CHECK = new Check("LanguageTest");
+
+    private static void holds(String rule, boolean is) {
+        CHECK.due(rule, is ? 1 : 0, 1);
+    }
 
     private static String withoutComments(String text) {
         return text.replaceAll("(?s)/\\*.*?\\*/", "").replaceAll("//[^\n]*", "");
@@ -28,13 +40,19 @@ public final class LanguageTest {
         Map<String, List<String>> rows = new LinkedHashMap<>();
         String name = "";
         String end = "";
+        int since = 0;
+        int line = 0;
         for (String row : code.split("\n")) {
-            Matcher m = Pattern.compile("^( {4,8})[\\w\\[\\] ]+? (\\w+)\\([^)]*\\) \\{$").matcher(row);
-            if (name.isEmpty() && m.matches()) {
-                name = m.group(2);
-                end = m.group(1) + "}";
+            line++;
+            Matcher head = HEAD.matcher(row);
+            if (name.isEmpty() && head.matches()) {
+                name = head.group(2);
+                end = head.group(1) + "}";
+                since = line;
                 rows.putIfAbsent(name, new ArrayList<>());
-            } else if (row.equals(end)) {
+                holds("11: " + name + " takes seven at most", head.group(3).split(",").length <= 7);
+            } else if (!name.isEmpty() && row.equals(end)) {
+                holds("11: " + name + " has sixty lines at most", line - since <= 60);
                 name = "";
             } else if (!name.isEmpty()) {
                 rows.get(name).add(row);
@@ -50,7 +68,7 @@ public final class LanguageTest {
             return above;
         }
         for (String row : rows.getOrDefault(name, List.of())) {
-            Matcher m = Pattern.compile("\\b(?!switch|if|for|while|return)(\\w+)\\(").matcher(row);
+            Matcher m = CALL.matcher(row);
             while (m.find()) {
                 below = Math.max(below, depthOf(m.group(1), rows, above + 1));
             }
@@ -58,42 +76,71 @@ public final class LanguageTest {
         return 1 + below;
     }
 
-    private static void checkDepth(Check check, String code) {
-        Map<String, List<String>> rows = rowsByMethod(code);
-        check.due("digest is among the methods", rows.containsKey("digest") ? 1 : 0, 1);
-        for (String name : rows.keySet()) {
-            int depth = depthOf(name, rows, 0);
-            check.due(name + " calls eight deep at most, it is " + depth, depth <= 8 ? 1 : 0, 1);
+    private static List<Class<?>> classes() {
+        List<Class<?>> all = new ArrayList<>(List.of(SnowTerm.class));
+        all.addAll(List.of(SnowTerm.class.getDeclaredClasses()));
+        return all;
+    }
+
+    /** A method that the text's reader missed would go unjudged. */
+    private static void everyMethodIsRead(Map<String, List<String>> rows) {
+        for (Class<?> one : classes()) {
+            holds("the constructor of " + one.getSimpleName() + " is read", rows.containsKey(one.getSimpleName()));
+            for (Method m : one.getDeclaredMethods()) {
+                holds(m.getName() + " is read", rows.containsKey(m.getName()));
+            }
         }
     }
 
-    private static void checkMethods(Check check, String code) {
-        int since = 0;
-        int line = 0;
-        String name = "";
-        for (String row : code.split("\n")) {
-            line++;
-            Matcher m = Pattern.compile("^ {4,8}[\\w\\[\\] ]+?(\\w+)\\(([^)]*)\\) \\{$").matcher(row);
-            if (m.matches()) {
-                name = m.group(1);
-                since = line;
-                check.due(name + " takes seven at most", m.group(2).split(",").length <= 7 ? 1 : 0, 1);
+    private static void callsStayShallow(Map<String, List<String>> rows) {
+        for (String name : rows.keySet()) {
+            int depth = depthOf(name, rows, 0);
+            holds("11: " + name + " calls eight deep at most, it is " + depth, depth <= 8);
+        }
+    }
+
+    /** All calls of a run live in one room, so rows are made by constructors alone. */
+    private static void onlyConstructorsMakeObjects(Map<String, List<String>> rows) {
+        List<String> makers = new ArrayList<>();
+        for (Class<?> one : classes()) {
+            makers.add(one.getSimpleName());
+        }
+        for (String name : rows.keySet()) {
+            boolean makes = rows.get(name).stream().anyMatch(row -> row.matches(".*\\b(new|clone|append)\\b.*"));
+            holds("12: " + name + " makes no object", !makes || makers.contains(name));
+        }
+    }
+
+    private static void classesStaySmall() {
+        holds("11: twelve classes at most", classes().size() <= 12);
+        for (Class<?> one : classes()) {
+            int fields = 0;
+            for (Field f : one.getDeclaredFields()) {
+                if (Modifier.isStatic(f.getModifiers())) {
+                    holds("5: " + f.getName() + " is final", Modifier.isFinal(f.getModifiers()));
+                    holds("5: " + f.getName() + " is an int or a text",
+                            f.getType() == int.class || f.getType() == String.class);
+                } else {
+                    fields++;
+                }
             }
-            if (row.matches("^ {4}( {4})?\\}$") && !name.isEmpty()) {
-                check.due(name + " has sixty lines at most", line - since <= 60 ? 1 : 0, 1);
-            }
+            holds("11: " + one.getSimpleName() + " has twenty fields at most", fields <= 20);
+            holds("1: " + one.getSimpleName() + " is static, if it is inside",
+                    one == SnowTerm.class || Modifier.isStatic(one.getModifiers()));
         }
     }
 
     public static void main(String[] args) throws IOException {
-        Check check = new Check("LanguageTest");
         String code = withoutComments(Files.readString(SOURCE));
         for (String word : NOT_HERE) {
             Matcher m = Pattern.compile(word).matcher(code);
-            check.due("times that " + word + " stands there", m.results().count(), 0);
+            CHECK.due("times that " + word + " stands there", m.results().count(), 0);
         }
-        checkMethods(check, code);
-        checkDepth(check, code);
-        check.end();
+        Map<String, List<String>> rows = rowsByMethod(code);
+        everyMethodIsRead(rows);
+        callsStayShallow(rows);
+        onlyConstructorsMakeObjects(rows);
+        classesStaySmall();
+        CHECK.end();
     }
 }
